@@ -250,28 +250,28 @@ public final class TableMachine {
         private static final int OPERANDS = 3;
 
         private static final int[] KINDS = {
-            Kind.NOTHING, Kind.NOTHING, Kind.NOTHING,
-            Kind.CURSOR, Kind.TABLE, Kind.NOTHING,
-            Kind.CURSOR, Kind.TARGET, Kind.NOTHING,
-            Kind.CURSOR, Kind.TARGET, Kind.NOTHING,
-            Kind.CURSOR, Kind.COLUMN, Kind.REGISTER,
-            Kind.CURSOR, Kind.REGISTER, Kind.NOTHING,
-            Kind.NUMBER, Kind.REGISTER, Kind.NOTHING,
-            Kind.REGISTER, Kind.NOTHING, Kind.NOTHING,
-            Kind.CURSOR, Kind.TARGET, Kind.REGISTER,
-            Kind.REGISTER, Kind.TARGET, Kind.REGISTER,
-            Kind.REGISTER, Kind.TARGET, Kind.REGISTER,
-            Kind.REGISTER, Kind.TARGET, Kind.REGISTER,
-            Kind.REGISTER, Kind.TARGET, Kind.REGISTER,
-            Kind.REGISTER, Kind.TARGET, Kind.REGISTER,
-            Kind.REGISTER, Kind.TARGET, Kind.REGISTER,
-            Kind.REGISTER, Kind.TARGET, Kind.NOTHING,
-            Kind.REGISTER, Kind.TARGET, Kind.NOTHING,
-            Kind.REGISTER, Kind.REGISTER, Kind.REGISTER,
-            Kind.REGISTER, Kind.WIDTH, Kind.NOTHING,
-            Kind.TARGET, Kind.NOTHING, Kind.NOTHING,
-            Kind.CURSOR, Kind.TARGET, Kind.ROW_REGISTERS,
-            Kind.CURSOR, Kind.NOTHING, Kind.NOTHING
+            /* HALT    */ Kind.NOTHING, Kind.NOTHING, Kind.NOTHING,
+            /* OPEN    */ Kind.CURSOR, Kind.TABLE, Kind.NOTHING,
+            /* REWIND  */ Kind.CURSOR, Kind.TARGET, Kind.NOTHING,
+            /* NEXT    */ Kind.CURSOR, Kind.TARGET, Kind.NOTHING,
+            /* COLUMN  */ Kind.CURSOR, Kind.COLUMN, Kind.REGISTER,
+            /* ROWID   */ Kind.CURSOR, Kind.REGISTER, Kind.NOTHING,
+            /* INTEGER */ Kind.NUMBER, Kind.REGISTER, Kind.NOTHING,
+            /* NULL    */ Kind.REGISTER, Kind.NOTHING, Kind.NOTHING,
+            /* SEEK    */ Kind.CURSOR, Kind.TARGET, Kind.REGISTER,
+            /* EQ      */ Kind.REGISTER, Kind.TARGET, Kind.REGISTER,
+            /* NE      */ Kind.REGISTER, Kind.TARGET, Kind.REGISTER,
+            /* LT      */ Kind.REGISTER, Kind.TARGET, Kind.REGISTER,
+            /* LE      */ Kind.REGISTER, Kind.TARGET, Kind.REGISTER,
+            /* GT      */ Kind.REGISTER, Kind.TARGET, Kind.REGISTER,
+            /* GE      */ Kind.REGISTER, Kind.TARGET, Kind.REGISTER,
+            /* ISNULL  */ Kind.REGISTER, Kind.TARGET, Kind.NOTHING,
+            /* NOTNULL */ Kind.REGISTER, Kind.TARGET, Kind.NOTHING,
+            /* ADD     */ Kind.REGISTER, Kind.REGISTER, Kind.REGISTER,
+            /* RESULT  */ Kind.REGISTER, Kind.WIDTH, Kind.NOTHING,
+            /* GOTO    */ Kind.TARGET, Kind.NOTHING, Kind.NOTHING,
+            /* INSERT  */ Kind.CURSOR, Kind.TARGET, Kind.ROW_REGISTERS,
+            /* DELETE  */ Kind.CURSOR, Kind.NOTHING, Kind.NOTHING
         };
 
         static int kind(int op, int operand) {
@@ -326,7 +326,7 @@ public final class TableMachine {
                     return isIndex(operand, REGISTERS - MAX_COLUMNS);
                 case WIDTH:
                     return operand >= 1 && operand <= MAX_WIDTH;
-                default:
+                default: // NOTHING, NUMBER
                     return true;
             }
         }
@@ -453,7 +453,9 @@ public final class TableMachine {
                 int last = below + step - 1;
                 if (last < table.size) {
                     long found = keys[table.slots[last]];
-                    below += found < key || (orAt && found == key) ? step : 0;
+                    if (found < key || (orAt && found == key)) {
+                        below += step;
+                    }
                 }
             }
             return below;
@@ -635,7 +637,7 @@ public final class TableMachine {
                     return seek(cursor, s) ? following : q;
                 case Op.INSERT:
                     return bringRow(cursor, s) ? following : q;
-                default:
+                default: // DELETE
                     dropRow(cursor);
                     return following;
             }
@@ -670,7 +672,7 @@ public final class TableMachine {
                     return results.take(registers, p, q) ? following : end(TOO_MANY_RESULTS);
                 case Op.GOTO:
                     return p;
-                default:
+                default: // EQ to GE
                     return holds(op, p, s) ? q : following;
             }
         }
@@ -755,7 +757,7 @@ public final class TableMachine {
                     return order <= 0;
                 case Op.GT:
                     return order > 0;
-                default:
+                default: // GE
                     return order >= 0;
             }
         }

@@ -116,6 +116,10 @@ public final class RunTest {
             program(y, op(HALT), goer);
             expect.argument(() -> y.run(5), "13: " + goer[0] + " goes above that");
         }
+        TableMachine first = machine(tables(1), op(OPEN, 0, 1), op(HALT));
+        expect.argument(() -> first.run(0), "13: a table that there is not, in the first instruction");
+        program(first, op(GOTO, 2));
+        expect.argument(() -> first.run(0), "13: too far, in the first instruction");
         TableMachine z = machine(tables(1, 1, 1), op(HALT), op(OPEN, 0, 2), op(INTEGER, 60, 9), op(ADD, 9, 9, 9), op(COLUMN, 0, 3, 9));
         expect.is(0, z.run(5), "13: what is no target may be any number");
     }

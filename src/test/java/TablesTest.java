@@ -9,6 +9,7 @@ public final class TablesTest {
         insert();
         insertIntoFullTables();
         delete();
+        rowsInPlaceOfOthers();
         slotsComeBackClean();
         count();
         next();
@@ -128,6 +129,32 @@ public final class TablesTest {
         expect.is(90, y.count(0), "4: 90 in one table");
         for (int i = 1; i <= 90; i++) {
             expect.is(i, y.next(0, i, false), "4: key " + i + " of 90");
+        }
+        for (int i = 1; i <= 90; i++) {
+            expect.yes(y.delete(0, i), "5: all 90 go from one table, row " + i);
+        }
+        expect.is(0, y.count(0), "5: none is left of 90");
+    }
+
+    private static void rowsInPlaceOfOthers() {
+        TableMachine x = new TableMachine();
+        x.table(1);
+        x.table(1);
+        for (int i = 0; i < 90; i++) {
+            x.set(0, true, i);
+            x.insert(0, i);
+        }
+        for (int i = 0; i < 90; i += 3) {
+            x.delete(0, i);
+        }
+        for (int i = 0; i < 90; i += 3) {
+            x.set(0, true, 1000 + i);
+            expect.yes(x.insert(1, i), "5: one comes for each that has gone, row " + i);
+        }
+        expect.state(() -> x.insert(1, 100), "5: and no more");
+        for (int i = 0; i < 90; i++) {
+            boolean moved = i % 3 == 0;
+            expect.is(moved ? 1000 + i : i, x.value(moved ? 1 : 0, i, 0), "5: the value of row " + i + " then");
         }
     }
 
