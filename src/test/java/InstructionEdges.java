@@ -90,6 +90,7 @@ final class InstructionEdges {
         program(THREE, "OPEN 0 0, REWIND 0 5, ROWID 0 0, RESULT 0 1, NEXT 0 2", "[1] [5] [9]");
         program("table(1); insert(0, MIN); insert(0, -1); insert(0, 4294967295); insert(0, MAX)", "OPEN 0 0, REWIND 0 5, ROWID 0 0, RESULT 0 1, NEXT 0 2",
             "[" + LEAST + "] [-1] [4294967295] [" + MOST + "]");
+        program("table(1); fill(0, 1, 90)", "OPEN 0 0, REWIND 0 6, INTEGER 1 1, INTEGER 0 0, ADD 0 1 0, NEXT 0 4, ROWID 0 2, RESULT 0 3", "[90 1 90]");
         // From a row that has gone, to one that has come.
         program(THREE, "OPEN 0 0, REWIND 0 7, DELETE 0, NEXT 0 5, HALT, ROWID 0 0, RESULT 0 1", "[5]");
         program(THREE, "OPEN 0 0, REWIND 0 8, INTEGER 3 0, INSERT 0 8 0, NEXT 0 6, HALT, ROWID 0 1, RESULT 1 1", "[3]");
@@ -161,6 +162,7 @@ final class InstructionEdges {
         e.of("8 SEEK c j r: its key is the least key of a row that is not below r;");
         String seek = "INTEGER % 3, OPEN 0 0, SEEK 0 6 3, ROWID 0 0, RESULT 0 1, HALT, RESULT 0 2";
         String[][] found = {{"MIN", "1"}, {"0", "1"}, {"1", "1"}, {"2", "5"}, {"4", "5"}, {"5", "5"}, {"6", "9"}, {"8", "9"}, {"9", "9"}};
+        program("table(1); fill(0, 1, 90)", seek.replace("%", "90"), "[90]");
         for (String[] one : found) {
             program(THREE, seek.replace("%", one[0]), "[" + one[1] + "]");
         }
@@ -176,6 +178,7 @@ final class InstructionEdges {
         e.of("if there is none, or r is NULL, it is without a key, and the run goes to j.");
         program(THREE, seek.replace("%", "10"), "[NULL NULL]");
         program(THREE, seek.replace("%", "MAX"), "[NULL NULL]");
+        program("table(1); fill(0, 1, 90)", seek.replace("%", "91"), "[NULL NULL]");
         program("table(1)", seek.replace("%", "MIN"), "[NULL NULL]");
         program("table(1); insert(0, MIN)", seek.replace("%", "MIN"), "[NULL NULL]");
         program("table(1); table(1); insert(0, MAX-1); set(0, true, MAX); insert(1, 1)", byValue, "[NULL NULL]");

@@ -231,6 +231,17 @@ final class TableEdges {
         e.run(some, "next(0, MAX-1, false) = 9223372036854775807", "next(0, MAX-1, true) = 9223372036854775807", "next(0, MAX, false) = 9223372036854775807");
         e.run("table(1)", "table(1)", "insert(0, 1)", "insert(1, 2)", "next(0, 0, false) = 1", "next(1, 0, false) = 2", "next(1, 1, true) = 2");
         e.run("table(1)", "insert(0, 1)", "insert(0, 2)", "insert(0, 3)", "delete(0, 2)", "next(0, 1, true) = 3", "next(0, 2, false) = 3");
+        // Every key of as many rows as there can be, and the keys between them.
+        StringBuilder ninety = new StringBuilder("table(1)");
+        for (int key = 2; key <= 180; key += 2) {
+            ninety.append("; insert(0, ").append(key).append(")");
+        }
+        for (int key = 2; key <= 180; key += 2) {
+            ninety.append("; next(0, ").append(key).append(", false) = ").append(key);
+            ninety.append("; next(0, ").append(key - 1).append(", false) = ").append(key);
+            ninety.append("; next(0, ").append(key - 2).append(", true) = ").append(key);
+        }
+        e.run(ninety.toString());
         e.of("IllegalArgumentException if there is no such table;");
         noSuchTable("next(%, 5, false)", "IAE", "NSEE");
         noSuchTable("next(%, 5, true)", "IAE", "NSEE");
