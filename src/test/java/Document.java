@@ -8,7 +8,7 @@ import java.util.Map;
 
 /**
  * The document, to see that each of its sentences has a test: what a test quotes is marked, and what is
- * left unmarked in the terms and promises can be told.
+ * left unmarked in what it is, the terms and the promises can be told.
  */
 final class Document {
     private final boolean there;
@@ -41,9 +41,10 @@ final class Document {
     }
 
     private void keep(String section, String text) {
-        if (section.equals("Terms") || section.startsWith("Promise ")) {
+        boolean promise = section.startsWith("Promise ");
+        if (promise || section.equals("What it is") || section.equals("Terms")) {
             // The signature of a promise is no sentence; the face has a test of its own.
-            String sentences = section.equals("Terms") ? text : text.replaceFirst("`[^`]*`:", "");
+            String sentences = promise ? text.replaceFirst("`[^`]*`:", "") : text;
             texts.put(section, plain(sentences));
             marks.put(section, new boolean[plain(sentences).length()]);
         }

@@ -29,30 +29,29 @@ final class Edges {
 
     /**
      * A run of calls on a new object, parted by semicolons: "call = answer", or a call alone, which then
-     * must be neither refused nor answered false.
+     * must be neither refused nor answered false. The first answer that is not as due ends the run.
      */
     void run(String... lines) {
         runsOfSentence++;
         Subject x = new Subject();
         List<String> told = new ArrayList<>();
-        for (String line : lines) {
-            for (String row : line.split(";")) {
-                tell(x, row.trim(), told);
+        for (String row : String.join(";", lines).split(";")) {
+            if (!tell(x, row.trim(), told)) {
+                break;
             }
         }
         expect.yes(x.calls() <= 512, about(told) + " has " + x.calls() + " calls");
     }
 
-    private void tell(Subject x, String row, List<String> told) {
+    private boolean tell(Subject x, String row, List<String> told) {
         int equals = row.indexOf(" = ");
         String call = equals < 0 ? row : row.substring(0, equals).trim();
         told.add(call);
         String got = answer(x, call);
         if (equals >= 0) {
-            expect.answers(row.substring(equals + 3).trim(), got, about(told));
-        } else {
-            expect.no(isRefusal(got) || got.contains("answers"), about(told) + " answers " + got + ": refused");
+            return expect.answers(row.substring(equals + 3).trim(), got, about(told));
         }
+        return expect.no(isRefusal(got) || got.contains("answers"), about(told) + " answers " + got + ": refused");
     }
 
     /** Where a number is due and something else comes, the run goes on, so that the other sentences are looked at too. */

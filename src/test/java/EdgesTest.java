@@ -2,7 +2,7 @@ import java.io.IOException;
 import java.nio.file.Path;
 
 /**
- * Every sentence of the document's terms and promises, with runs of calls just inside the edges that it
+ * Every sentence of what the class is, the document's terms and promises, with runs of calls just inside the edges that it
  * names, at them and just beyond them. It fails too if the document has a sentence that none of them is for.
  */
 public final class EdgesTest {

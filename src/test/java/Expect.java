@@ -9,12 +9,14 @@ final class Expect {
     private int checks = 0;
     private int wrong = 0;
 
-    void answers(Object due, Object got, String what) {
+    boolean answers(Object due, Object got, String what) {
         checks++;
-        if (!Objects.equals(due, got)) {
+        boolean asDue = Objects.equals(due, got);
+        if (!asDue) {
             wrong++;
             System.out.println(what + ": answered " + got + ", due is " + due);
         }
+        return asDue;
     }
 
     void is(long due, long got, String what) {
@@ -25,8 +27,8 @@ final class Expect {
         answers(true, got, what);
     }
 
-    void no(boolean got, String what) {
-        answers(false, got, what);
+    boolean no(boolean got, String what) {
+        return answers(false, got, what);
     }
 
     /** The very class, not one below it, is what a call of the face must throw. */

@@ -1,4 +1,4 @@
-/** What the terms say of values, tables, the machine, a run and its outcomes, sentence by sentence. */
+/** What the class is, and what the terms say of values, tables, the machine, a run and its outcomes, sentence by sentence. */
 final class TermsEdges {
     private static final String LEAST = "-9223372036854775808";
     private static final String MOST = "9223372036854775807";
@@ -10,6 +10,9 @@ final class TermsEdges {
     }
 
     void all() {
+        e.section("What it is");
+        whole();
+        calls();
         e.section("Terms");
         values();
         rows();
@@ -20,6 +23,54 @@ final class TermsEdges {
         outcomes();
         rowsStay();
         constants();
+    }
+
+    private void whole() {
+        e.of("Tables of rows by key, a register machine that goes over them with cursors, and a compiler that makes its programs out of questions.");
+        e.run("table(1) = 0", "table(2) = 1", "set(0, true, 10)", "insert(0, 2)", "insert(0, 1)", "set(0, true, 2)", "set(1, true, 30)", "insert(1, 8)", "set(0, true, 3)",
+            "insert(1, 9)", "ask(0, 1)", "output(0, 0)", "output(1, 1)", "join(-1, 0)", "condition(1, -1, 3, 8)", "compile() = 18",
+            "listing = OPEN 0 0, OPEN 1 1, REWIND 0 17, REWIND 1 16, ROWID 1 0, INTEGER 8 1, LE 0 8 1, GOTO 15, ROWID 0 0, COLUMN 1 0 1, EQ 0 12 1, GOTO 15, "
+                + "COLUMN 0 0 2, COLUMN 1 1 3, RESULT 2 2, NEXT 1 4, NEXT 0 3, HALT",
+            "run(999) = 0", "results = [10 30]");
+    }
+
+    private void calls() {
+        e.of("An object is used for at most 512 calls after it has been made;");
+        of512("", "count(0) = -1", "set(0, true, 1) = true");
+        of512("", "table(0) = IAE", "table(4) = 0");
+        of512("", "code(0, 0) = IOOBE", "wipe() = done");
+        of512("", "add(22, 0, 0, 0) = IAE; insert(0, 1) = IAE", "add(HALT, 0, 0, 0) = 0; table(1) = 0; insert(0, 1) = true");
+        of512("table(1)", "insert(0, 5) = true; delete(0, 5) = true", "insert(0, 6) = true; count(0) = 1");
+        of512("table(4)", "add(NULL, 0, 0, 0) = 0; wipe(); set(3, true, 8) = true; set(3, false, 8) = true", "add(HALT, 0, 0, 0) = 0; insert(0, 1) = true; isNull(0, 1, 3) = true");
+        of512("add(GOTO, 0, 0, 0)", "run(4000) = 1", "wipe(); run(0) = 0");
+        of512("add(RESULT, 12, 4, 0); add(GOTO, 0, 0, 0)", "run(4000) = 2", "result(-1, 0) = 64; wasNull(63, 3) = true");
+        of512("table(4); ask(0, 0); output(0, 0); output(1, 3); join(0, -1)", "compile() = 14", "code(13, 0) = 0; code(14, 0) = IOOBE");
+        of512("table(4)", "ask(0, NONE) = true; output(0, 0) = true; condition(0, -1, 4, 1) = true; compile() = 11; run(9) = 0", "compile() = 11");
+        // As many rows come and go in each run as it has fuel for.
+        of512("table(4); add(OPEN, 0, 0, 0); add(INTEGER, 7, 0, 0); add(INSERT, 0, 3, 0); add(REWIND, 0, 4, 0); add(DELETE, 0, 0, 0); add(GOTO, 2, 0, 0)",
+            "run(4000) = 1; count(0) = 1; delete(0, 7) = true", "run(4000) = 1; value(0, 7, 0) = 0");
+        e.of("what later calls answer is free.");
+        // Nothing is asked of them: Edges looks at it that no run of any sentence goes so far.
+        of512("", "wipe() = done", "wipe() = done");
+    }
+
+    /** What is told in the middle is told again and again, until with the last calls there are 512. */
+    private void of512(String first, String again, String last) {
+        StringBuilder run = new StringBuilder(first.isEmpty() ? "count(3) = -1" : first);
+        int calls = rows(run.toString());
+        for (; calls + rows(again) + rows(last) <= 512; calls += rows(again)) {
+            run.append("; ").append(again);
+        }
+        for (; calls + rows(last) < 512; calls++) {
+            run.append("; count(-1) = -1");
+        }
+        run.append("; ").append(last);
+        e.same("512", "" + rows(run.toString()), "calls that end with: " + last);
+        e.run(run.toString());
+    }
+
+    private static int rows(String run) {
+        return run.split("; ").length;
     }
 
     private void values() {
